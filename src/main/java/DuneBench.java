@@ -585,7 +585,8 @@ public final class DuneBench {
             }
             heap[c] = v;
             heapAtSeason[c] = v;
-            doubt(c);
+            doubtAbove(c);
+            doubts.add(c);
             settle();
         }
 
@@ -679,15 +680,33 @@ public final class DuneBench {
             settle();
         }
 
-        /** Where a heap has changed, that cell and its neighbours alone can have become too steep. */
-        private void doubt(int c) {
-            doubts.add(c);
+        /** A heap that became lower leaves no one too steep but neighbours above it. */
+        private void doubtAbove(int c) {
             for (int way = 0; way < WAYS; way++) {
                 int other = shape.beside(c, way);
-                if (other != NONE) {
+                if (other != NONE && heap[other] - heap[c] > rules[SLOPE]) {
                     doubts.add(other);
                 }
             }
+        }
+
+        /** A heap that became higher is the only one that can have become too steep. */
+        private void raise(int c) {
+            if (!shape.has(c)) {
+                return;
+            }
+            heap[c]++;
+            doubts.add(c);
+            settle();
+        }
+
+        private void lower(int c) {
+            if (!shape.has(c)) {
+                return;
+            }
+            heap[c]--;
+            doubtAbove(c);
+            settle();
         }
 
         private void settle() {
@@ -700,7 +719,8 @@ public final class DuneBench {
                 if (shape.has(to) && heap[c] - heap[to] > rules[SLOPE]) {
                     heap[c]--;
                     heap[to]++;
-                    doubt(c);
+                    doubtAbove(c);
+                    doubts.add(to);
                 } else {
                     doubts.remove(c);
                 }
@@ -762,11 +782,8 @@ public final class DuneBench {
 
         private void bringSupply() {
             for (int i = 0; i < rules[SUPPLY]; i++) {
-                int c = draw(shape.high) * shape.wide;
-                heap[c]++;
                 supplied++;
-                doubt(c);
-                settle();
+                raise(draw(shape.high) * shape.wide);
             }
         }
 
@@ -774,36 +791,34 @@ public final class DuneBench {
             for (int i = 0; i < heap.length; i++) {
                 int c = draw(heap.length);
                 if (isLifted(c, wind)) {
-                    carry(c, wind);
+                    lower(c);
+                    int at = landing(c, wind);
+                    if (at == NONE) {
+                        lose(wind);
+                    } else {
+                        raise(at);
+                    }
                 }
             }
         }
 
         private boolean isLifted(int c, int wind) {
-            if (heap[c] == 0 || limit[c] > 0 || isInShadow(c, wind)) {
+            if (!shape.has(c) || heap[c] == 0 || limit[c] > 0 || isInShadow(c, wind)) {
                 return false;
             }
             return grass[c] == 0 || draw(100) >= grass[c];
         }
 
-        private void carry(int from, int wind) {
-            heap[from]--;
-            doubt(from);
-            settle();
+        /** Answers where the grain comes to lie, or NONE if it is gone. */
+        private int landing(int from, int wind) {
             int at = from;
             for (int hops = 1; hops <= MOST_HOPS; hops++) {
                 at = afterHop(at, wind);
-                if (at == NONE) {
-                    lose(wind);
-                    return;
-                }
-                if (hops == MOST_HOPS || isLaid(at, wind)) {
-                    heap[at]++;
-                    doubt(at);
-                    settle();
-                    return;
+                if (at == NONE || hops == MOST_HOPS || isLaid(at, wind)) {
+                    return at;
                 }
             }
+            return at;
         }
 
         private int afterHop(int from, int wind) {
