@@ -362,9 +362,9 @@ final class PlainModel {
                 if (w[0] == 0) { s.fence[y][x] = w[2]; }
                 if (w[0] == 1) { s.grass[y][x] = w[2]; }
                 if (w[0] == 2) { s.heap[y][x] = Math.max(0, s.heap[y][x] - w[2]); }
+                s.settle();
             }
             if (cost > money) { continue; }
-            s.settle();
             for (int i = 0; i < n; i++) { s.day(); }
             all.add(new int[] {s.sum(true), cost, set});
         }
