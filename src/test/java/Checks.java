@@ -19,6 +19,12 @@ final class Checks {
         due(call, want ? 1 : 0, got ? 1 : 0);
     }
 
+    static void heapsAre(String what, DuneBench x, int... heaps) {
+        for (int c = 0; c < heaps.length; c++) {
+            due(what + ": the HEAP of " + c, heaps[c], x.cell(c, 0));
+        }
+    }
+
     /** Ends the program, with 1 if an answer was wrong. */
     static void close(String name) {
         System.out.println(name + ": " + asked + " answers looked at, " + wrong + " not as due");

@@ -13,6 +13,8 @@ public final class DayEdgeTest {
         supplyFromTheFirstYToTheLast();
         supplySettlesEachTime();
         noHeapNothingMore();
+        nothingMoreIsDrawn();
+        laidWithoutALot();
         houseHolds();
         shadowHolds();
         shadowHoldsFromEightAway();
@@ -47,12 +49,6 @@ public final class DayEdgeTest {
 
     private static void due(String what, long want, long got) {
         Checks.due(what, want, got);
-    }
-
-    private static void heapsAre(String what, DuneBench x, int... heaps) {
-        for (int c = 0; c < heaps.length; c++) {
-            due(what + ": the HEAP of " + c, heaps[c], x.cell(c, 0));
-        }
     }
 
     /** A GRID with SLOPE 9 and without SUPPLY, of one wind. */
@@ -99,7 +95,7 @@ public final class DayEdgeTest {
         x.heap(1, 1);
         x.seed(Lots.oneGust(8, 1, new int[] {Lots.ANY}, 2));
         x.days(1);
-        heapsAre("P10 the first DRAW is the gust's", x, 0, 0, 1, 0, 0, 0, 0, 0);
+        Checks.heapsAre("P10 the first DRAW is the gust's", x, 0, 0, 1, 0, 0, 0, 0, 0);
         x.days(59);
         due("P10 no grain came", 0, x.about(6));
     }
@@ -153,7 +149,7 @@ public final class DayEdgeTest {
         Checks.blow(x, "inland 1;");
         x.days(1);
         // y 1 has 2: one to the right; 2 again: one to y 0; which gets a second: to the right. All at once: 1 0, 2 1.
-        heapsAre("P10 each grain slides by itself", x, 1, 1, 0, 0, 1, 1, 0, 0);
+        Checks.heapsAre("P10 each grain slides by itself", x, 1, 1, 0, 0, 1, 1, 0, 0);
     }
 
     /** 'nothing more, if it has no HEAP'. */
@@ -162,23 +158,60 @@ public final class DayEdgeTest {
             DuneBench x = windy(4, 2, word, 1, 0, 0);
             x.lay(1, 0, 50);
             x.days(60);
-            heapsAre("P10 nothing is lifted where there is none, " + word, x, 0, 0, 0, 0, 0, 0, 0, 0);
+            Checks.heapsAre("P10 nothing is lifted where there is none, " + word, x, 0, 0, 0, 0, 0, 0, 0, 0);
             due("P10 nothing is LOST, " + word, 0, x.about(4) + x.about(5));
         }
-        // No lot falls for the GRASS of a CELL without a HEAP: the gusts behind it are as drawn.
-        DuneBench x = windy(4, 2, "inland", 1, 0, 100);
-        x.lay(6, 0, 50);
-        x.heap(1, 1);
-        x.seed(Lots.seedWhere(l -> {
-            boolean asWanted = l.draw(8) == 6 && l.draw(8) == 1;
-            l.draw(100);
-            for (int gust = 2; gust < 8; gust++) {
-                asWanted &= l.draw(8) != 2;
+    }
+
+    /**
+     * By it the first gust picks this CELL, the second one probe, and the others none of these to be avoided. Had a
+     * lot fallen for the first one, nothing would pick probe.
+     */
+    private static int twoGusts(int first, int probe, int... avoided) {
+        return Lots.seedWhere(l -> {
+            boolean asWanted = l.draw(8) == first && l.draw(8) == probe;
+            for (int draws = 2; asWanted && draws < 9; draws++) {
+                int other = l.draw(65536) % 8;
+                asWanted = other != probe;
+                for (int a : avoided) {
+                    asWanted &= other != a;
+                }
             }
             return asWanted;
-        }));
-        x.days(1);
-        heapsAre("P10 no lot for GRASS without a HEAP", x, 0, 0, 1, 0, 0, 0, 0, 0);
+        });
+    }
+
+    /** 'nothing more': for a CELL without a HEAP, in SHADOW or with a HOUSE no lot falls, though it has GRASS. */
+    private static void nothingMoreIsDrawn() {
+        int[][] held = {{0, 0, 0}, {1, 3, 0}, {1, 0, 999}};
+        for (int[] h : held) {
+            String what = "P10 no lot: HEAP " + h[0] + ", " + h[1] + " ahead, LIMIT " + h[2];
+            DuneBench x = windy(4, 2, "inland", 1, 0, 100);
+            x.heap(0, h[1]);
+            x.lay(0, 3, 999);
+            x.heap(1, h[0]);
+            x.lay(1, 0, 50);
+            x.lay(1, 3, h[2]);
+            x.heap(5, 1);
+            x.seed(twoGusts(1, 5, 6));
+            x.days(1);
+            Checks.heapsAre(what, x, h[1], h[0], 0, 0, 0, 0, 1, 0);
+        }
+    }
+
+    /** 'in SHADOW, its HEAP is below its FENCE, or a DRAW': ahead of the others nothing is drawn. */
+    private static void laidWithoutALot() {
+        for (int fence = 0; fence <= 1; fence++) {
+            DuneBench x = windy(4, 2, "inland", 2, 0, 100);
+            x.heap(0, 1);
+            x.heap(1, 1 - fence);
+            x.lay(1, 3, 999);
+            x.lay(2, 1, fence);
+            x.heap(4, 1);
+            x.seed(twoGusts(0, 4, 2, 6));
+            x.days(1);
+            Checks.heapsAre("P10 laid without a lot, FENCE " + fence, x, 0, 1 - fence, 1, 0, 0, 0, 1, 0);
+        }
     }
 
     /** 'or has a HOUSE': of any LIMIT; without one it is lifted. */
@@ -298,11 +331,11 @@ public final class DayEdgeTest {
             x.heap(c, heaps[c]);
             x.lay(c, 3, c == 1 ? 0 : 999);
         }
-        heapsAre("P10 nothing slides at first", x, heaps);
+        Checks.heapsAre("P10 nothing slides at first", x, heaps);
         x.lay(2, 1, 2);
         x.days(60);
         // CELL 1's grain is lifted, CELL 2 gives it one and is below its FENCE then: there the grain is laid.
-        heapsAre("P10 the gap is filled first", x, heaps);
+        Checks.heapsAre("P10 the gap is filled first", x, heaps);
         due("P10 nothing is LOST", 0, x.about(5));
     }
 
@@ -315,7 +348,7 @@ public final class DayEdgeTest {
         x.lay(2, 3, 999);
         x.lay(3, 3, 999);
         x.days(60);
-        heapsAre("P10 laid on CELL 2 it slides to the right", x, 0, 0, 1, 1, 0, 0, 0, 0);
+        Checks.heapsAre("P10 laid on CELL 2 it slides to the right", x, 0, 0, 1, 1, 0, 0, 0, 0);
     }
 
     /** The HEAP of 1 at from is lifted once; where it is laid GRASS of 100 holds it. */
@@ -449,7 +482,7 @@ public final class DayEdgeTest {
                 x.seed(Lots.oneGust(8, 1, new int[] {l[1]}, 3));
                 x.days(1);
                 // If it goes on, it comes into the SHADOW of CELL 2.
-                heapsAre("P10 LAY " + l[0] + ", lot " + l[1] + ", BARE " + bare, x, 0, 0, 1 + l[2], 1 - l[2]);
+                Checks.heapsAre("P10 LAY " + l[0] + ", lot " + l[1] + ", BARE " + bare, x, 0, 0, 1 + l[2], 1 - l[2]);
             }
         }
     }

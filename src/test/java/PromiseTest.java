@@ -26,7 +26,6 @@ public final class PromiseTest {
         shadows();
         works();
         best();
-        bestOfDigs();
         mark();
         flights();
         fits();
@@ -45,12 +44,6 @@ public final class PromiseTest {
     private static int draw(int below) {
         lots = lots * 1103515245 + 12345;
         return (lots >>> 16) % below;
-    }
-
-    private static void heapsAre(String what, DuneBench x, int... heaps) {
-        for (int c = 0; c < heaps.length; c++) {
-            due(what + ": heap of cell " + c, heaps[c], x.cell(c, 0));
-        }
     }
 
     /** A grid where nothing is lifted: grass of 100 everywhere. */
@@ -107,26 +100,26 @@ public final class PromiseTest {
         DuneBench x = new DuneBench(5, 3);
         x.rules(2, 60, 40, 1, 0);
         x.heap(7, 2);
-        heapsAre("slides: first to the right", x, 0, 0, 0, 0, 0, 0, 0, 1, 1, 0, 0, 0, 0, 0, 0);
+        Checks.heapsAre("slides: first to the right", x, 0, 0, 0, 0, 0, 0, 0, 1, 1, 0, 0, 0, 0, 0, 0);
         x = new DuneBench(5, 3);
         x.rules(2, 60, 40, 1, 0);
         x.heap(7, 3);
         // 3: to the right; 2: to the left, then 1.
-        heapsAre("slides: then to the left", x, 0, 0, 0, 0, 0, 0, 1, 1, 1, 0, 0, 0, 0, 0, 0);
+        Checks.heapsAre("slides: then to the left", x, 0, 0, 0, 0, 0, 0, 1, 1, 1, 0, 0, 0, 0, 0, 0);
         x = new DuneBench(5, 3);
         x.rules(2, 60, 40, 1, 0);
         x.heap(7, 5);
-        heapsAre("slides: then y more, then y less", x, 0, 0, 1, 0, 0, 0, 1, 1, 1, 0, 0, 0, 1, 0, 0);
+        Checks.heapsAre("slides: then y more, then y less", x, 0, 0, 1, 0, 0, 0, 1, 1, 1, 0, 0, 0, 1, 0, 0);
         x = new DuneBench(4, 3);
         x.rules(2, 60, 40, 1, 0);
         x.heap(11, 3);
         // No right neighbour: left first, then y one more, which is the first y.
-        heapsAre("slides: over the last y to the first", x, 0, 0, 0, 1, 0, 0, 0, 0, 0, 0, 1, 1);
+        Checks.heapsAre("slides: over the last y to the first", x, 0, 0, 0, 1, 0, 0, 0, 0, 0, 0, 1, 1);
         x = new DuneBench(4, 2);
         x.heap(0, 2);
-        heapsAre("slides: just SLOPE stands", x, 2, 0, 0, 0, 0, 0, 0, 0);
+        Checks.heapsAre("slides: just SLOPE stands", x, 2, 0, 0, 0, 0, 0, 0, 0);
         x.heap(0, 3);
-        heapsAre("slides: one more does not", x, 2, 1, 0, 0, 0, 0, 0, 0);
+        Checks.heapsAre("slides: one more does not", x, 2, 1, 0, 0, 0, 0, 0, 0);
         x = new DuneBench(4, 3);
         x.rules(2, 60, 40, 1, 0);
         // Cells 0 and 4 stand at 1 and 2 on purpose; 1 becomes 2: the lowest cell slides first.
@@ -136,10 +129,10 @@ public final class PromiseTest {
         x.heap(9, 1);
         x.heap(2, 1);
         x.heap(1, 2);
-        heapsAre("slides: a heap of 2 among 1", x, 1, 2, 1, 0, 0, 1, 0, 0, 0, 1, 0, 0);
+        Checks.heapsAre("slides: a heap of 2 among 1", x, 1, 2, 1, 0, 0, 1, 0, 0, 0, 1, 0, 0);
         x.heap(2, 0);
         // Cell 1 stands 2 above cell 2.
-        heapsAre("slides: into a hole", x, 1, 1, 1, 0, 0, 1, 0, 0, 0, 1, 0, 0);
+        Checks.heapsAre("slides: into a hole", x, 1, 1, 1, 0, 0, 1, 0, 0, 0, 1, 0, 0);
     }
 
     private static void lay() {
@@ -191,7 +184,7 @@ public final class PromiseTest {
         due("P4 most", true, x.rules(5, 100, 100, 9, 20));
         rulesAre("P4 most", x, most);
         x.heap(0, 9);
-        heapsAre("P4 slope 9", x, 9, 0);
+        Checks.heapsAre("P4 slope 9", x, 9, 0);
         due("P4 least", true, x.rules(1, 0, 0, 1, 0));
         rulesAre("P4 least", x, least);
         due("P4 the grid slides by the new slope", true, x.cell(0, 0) < 9);
@@ -563,7 +556,7 @@ public final class PromiseTest {
             x.heap(c, heaps[c]);
         }
         due("P11 storm(6)", 12, x.storm(6));
-        heapsAre("P11 from the sea on", x, 0, 0, 3, 1, 0, 0, 0, 1);
+        Checks.heapsAre("P11 from the sea on", x, 0, 0, 3, 1, 0, 0, 0, 1);
         due("P11 LOST to the sea", 12, x.about(4));
         for (int bad : new int[] {0, 1000, -1, Integer.MIN_VALUE, Integer.MAX_VALUE}) {
             due("P11 storm(" + bad + ")", NONE, x.storm(bad));
@@ -582,7 +575,7 @@ public final class PromiseTest {
         }
         // Both seaward cells become 0; then cell 1 (3) gives to cell 0, and 5 to 4.
         due("P11 storm(2)", 4, x.storm(2));
-        heapsAre("P11 settled then", x, 1, 2, 2, 3, 1, 2, 2, 3);
+        Checks.heapsAre("P11 settled then", x, 1, 2, 2, 3, 1, 2, 2, 3);
     }
 
     private static void shadows() {
@@ -666,7 +659,7 @@ public final class PromiseTest {
             due("P15 days " + bad, NONE, x.best(1, bad));
             due("P16 days " + bad, NONE, x.bestSet(1, bad));
         }
-        heapsAre("P15 nothing is changed", x, 4, 0, 0, 0, 0, 2, 0, 0);
+        Checks.heapsAre("P15 nothing is changed", x, 4, 0, 0, 0, 0, 2, 0, 0);
         due("P15 no day went by", 0, x.about(0));
         // The one grain comes to the house by its fence, unless grass holds it or a fence ahead takes it.
         x = new DuneBench(6, 2);
@@ -715,27 +708,6 @@ public final class PromiseTest {
         int told = x.best(0, 20);
         x.days(20);
         due("P15 comes true", told, x.cell(22, 0) + x.cell(13, 0));
-    }
-
-    /** A house's cell dug twice: the neighbours slide in between. Worked out slide by slide. */
-    private static void bestOfDigs() {
-        DuneBench x = new DuneBench(4, 2);
-        x.rules(1, 0, 0, 9, 0);
-        for (int c = 0; c < 8; c++) {
-            x.heap(c, 5);
-        }
-        x.rules(1, 0, 0, 1, 0);
-        x.lay(0, 3, 9);
-        x.work(2, 0, 5, 7);
-        x.work(2, 0, 5, 7);
-        due("P15 none dug", 5, x.best(6, 1));
-        // All are 5 but cell 0; then 4 4 4 5, 4 4 5 5.
-        due("P15 dug once", 4, x.best(7, 1));
-        due("P16 dug once", 1, x.bestSet(7, 1));
-        // Dug again: 3 3 4 4, 3 4 5 5.
-        due("P15 dug twice", 3, x.best(14, 1));
-        due("P16 dug twice", 3, x.bestSet(14, 1));
-        due("P15 nothing is changed", 40, x.about(3));
     }
 
     private static void mark() {

@@ -31,12 +31,6 @@ public final class ShoreEdgeTest {
         Checks.due(what, want, got);
     }
 
-    private static void heapsAre(String what, DuneBench x, int... heaps) {
-        for (int c = 0; c < heaps.length; c++) {
-            due(what + ": the HEAP of " + c, heaps[c], x.cell(c, 0));
-        }
-    }
-
     /** These heaps, each at most 9, on a GRID where SLOPE is 9: nothing slides. */
     private static DuneBench steep(int wide, int high, int... heaps) {
         DuneBench x = new DuneBench(wide, high);
@@ -56,13 +50,13 @@ public final class ShoreEdgeTest {
     /** 'that to the right, to the left (as far as there are)': none beyond x 0 or the last x. */
     private static void neighboursWithinAnX() {
         // CELL 3 is the last of y 0, CELL 4 the first of y 1: no neighbours.
-        heapsAre("P2 the last x has none to the right", settled(1, 4, 3, 0, 0, 0, 4, 0, 0, 0, 0, 0, 0, 0, 0),
+        Checks.heapsAre("P2 the last x has none to the right", settled(1, 4, 3, 0, 0, 0, 4, 0, 0, 0, 0, 0, 0, 0, 0),
                 0, 0, 1, 1, 0, 0, 0, 1, 0, 0, 0, 1);
-        heapsAre("P2 x 0 has none to the left", settled(1, 4, 3, 0, 0, 0, 0, 4, 0, 0, 0, 0, 0, 0, 0),
+        Checks.heapsAre("P2 x 0 has none to the left", settled(1, 4, 3, 0, 0, 0, 0, 4, 0, 0, 0, 0, 0, 0, 0),
                 1, 0, 0, 0, 1, 1, 0, 0, 1, 0, 0, 0);
-        heapsAre("P2 nor beyond the first CELL", settled(1, 4, 3, 4, 0, 0, 0, 0, 0, 0, 0, 0, 0, 0, 0),
+        Checks.heapsAre("P2 nor beyond the first CELL", settled(1, 4, 3, 4, 0, 0, 0, 0, 0, 0, 0, 0, 0, 0, 0),
                 1, 1, 0, 0, 1, 0, 0, 0, 1, 0, 0, 0);
-        heapsAre("P2 nor beyond the last CELL", settled(1, 4, 3, 0, 0, 0, 0, 0, 0, 0, 0, 0, 0, 0, 4),
+        Checks.heapsAre("P2 nor beyond the last CELL", settled(1, 4, 3, 0, 0, 0, 0, 0, 0, 0, 0, 0, 0, 0, 4),
                 0, 0, 0, 1, 0, 0, 0, 1, 0, 0, 1, 1);
     }
 
@@ -85,26 +79,27 @@ public final class ShoreEdgeTest {
 
     /** With HIGH 2 the CELL with y one more is that with y one less. */
     private static void neighboursOfHighTwo() {
-        heapsAre("P2 HIGH 2", settled(1, 4, 2, 0, 4, 0, 0, 0, 0, 0, 0), 1, 1, 1, 0, 0, 1, 0, 0);
-        heapsAre("P2 HIGH 2", settled(1, 4, 2, 0, 0, 0, 0, 0, 4, 0, 0), 0, 1, 0, 0, 1, 1, 1, 0);
+        Checks.heapsAre("P2 HIGH 2", settled(1, 4, 2, 0, 4, 0, 0, 0, 0, 0, 0), 1, 1, 1, 0, 0, 1, 0, 0);
+        Checks.heapsAre("P2 HIGH 2", settled(1, 4, 2, 0, 0, 0, 0, 0, 4, 0, 0), 0, 1, 0, 0, 1, 1, 1, 0);
     }
 
     /** A GRID of 16 by 10: each CELL gives what is too much to its own NEIGHBOURS, and to no others. */
     private static void everyCellOfTheLargest() {
         for (int c = 0; c < 160; c++) {
-            int cell = c;
-            int x0 = c % 16;
-            int y0 = c / 16;
             DuneBench x = new DuneBench(16, 10);
             x.rules(1, 0, 0, 1, 0);
-            // Five grains, or four at the edges, for itself and each NEIGHBOUR.
-            boolean edge = x0 == 0 || x0 == 15;
-            x.heap(cell, edge ? 4 : 5);
+            // A grain for itself and for each NEIGHBOUR.
+            x.heap(c, c % 16 == 0 || c % 16 == 15 ? 4 : 5);
             for (int other = 0; other < 160; other++) {
-                int away = Math.abs(other % 16 - x0) + Math.min(Math.floorMod(other / 16 - y0, 10), Math.floorMod(y0 - other / 16, 10));
-                due("P2 a HEAP at " + cell + ": the HEAP of " + other, away <= 1 ? 1 : 0, x.cell(other, 0));
+                due("P2 a HEAP at " + c + ": the HEAP of " + other, stepsBetween(c, other) <= 1 ? 1 : 0, x.cell(other, 0));
             }
         }
+    }
+
+    /** On a GRID of 16 by 10. */
+    private static int stepsBetween(int c, int other) {
+        int dy = Math.abs(c / 16 - other / 16);
+        return Math.abs(c % 16 - other % 16) + Math.min(dy, 10 - dy);
     }
 
     /** 'as long as a HEAP is more than SLOPE above one of its NEIGHBOURS'. */
@@ -124,9 +119,9 @@ public final class ShoreEdgeTest {
     /** 'gives a grain to the lowest of its NEIGHBOURS', not to the first that is low enough. */
     private static void lowestNeighbour() {
         // CELL 1 has 4, to its right 2, to its left 2, behind it 1, by SLOPE 2.
-        heapsAre("P2 to the lowest", settled(2, 4, 2, 2, 4, 2, 0, 0, 1, 0, 0), 2, 3, 2, 0, 0, 2, 0, 0);
-        heapsAre("P2 to the lowest left", settled(2, 4, 2, 0, 4, 1, 0, 0, 1, 0, 0), 1, 3, 1, 0, 0, 1, 0, 0);
-        heapsAre("P2 to the lowest right", settled(2, 4, 2, 1, 4, 0, 0, 0, 1, 0, 0), 1, 3, 1, 0, 0, 1, 0, 0);
+        Checks.heapsAre("P2 to the lowest", settled(2, 4, 2, 2, 4, 2, 0, 0, 1, 0, 0), 2, 3, 2, 0, 0, 2, 0, 0);
+        Checks.heapsAre("P2 to the lowest left", settled(2, 4, 2, 0, 4, 1, 0, 0, 1, 0, 0), 1, 3, 1, 0, 0, 1, 0, 0);
+        Checks.heapsAre("P2 to the lowest right", settled(2, 4, 2, 1, 4, 0, 0, 0, 1, 0, 0), 1, 3, 1, 0, 0, 1, 0, 0);
     }
 
     /** 'of like ones the first as told here': right, left, y one more, y one less. */
@@ -148,11 +143,11 @@ public final class ShoreEdgeTest {
     /** 'the lowest CELL of such': by its number, whatever its HEAP. */
     private static void lowestCellFirst() {
         // Would CELL 5 slide first, or the lower HEAP, or the higher CELL, a grain would end on CELL 10, not 9.
-        heapsAre("P4 the lowest CELL first", settled(1, 4, 3, 0, 0, 4, 0, 0, 3, 0, 0, 0, 0, 0, 0),
+        Checks.heapsAre("P4 the lowest CELL first", settled(1, 4, 3, 0, 0, 4, 0, 0, 3, 0, 0, 0, 0, 0, 0),
                 0, 1, 1, 1, 1, 1, 1, 0, 0, 1, 0, 0);
-        heapsAre("P4 the lowest CELL first, though it is higher", settled(1, 4, 2, 0, 0, 0, 5, 0, 0, 0, 3),
+        Checks.heapsAre("P4 the lowest CELL first, though it is higher", settled(1, 4, 2, 0, 0, 0, 5, 0, 0, 0, 3),
                 0, 1, 1, 2, 0, 1, 1, 2);
-        heapsAre("P4 the lowest CELL first, though it is lower",
+        Checks.heapsAre("P4 the lowest CELL first, though it is lower",
                 settled(1, 4, 3, 4, 0, 0, 0, 0, 5, 0, 0, 0, 5, 0, 0), 1, 1, 0, 0, 2, 2, 1, 1, 2, 2, 1, 1);
     }
 
@@ -160,13 +155,13 @@ public final class ShoreEdgeTest {
     private static void rulesSettle() {
         DuneBench x = steep(4, 2, 9, 0, 0, 0, 0, 0, 0, 0);
         x.rules(1, 0, 0, 8, 0);
-        heapsAre("P4 by SLOPE 8", x, 8, 1, 0, 0, 0, 0, 0, 0);
+        Checks.heapsAre("P4 by SLOPE 8", x, 8, 1, 0, 0, 0, 0, 0, 0);
         x.rules(1, 0, 0, 7, 0);
-        heapsAre("P4 by SLOPE 7", x, 7, 1, 0, 0, 1, 0, 0, 0);
+        Checks.heapsAre("P4 by SLOPE 7", x, 7, 1, 0, 0, 1, 0, 0, 0);
         x.rules(1, 0, 0, 9, 0);
-        heapsAre("P4 by SLOPE 9 nothing comes back", x, 7, 1, 0, 0, 1, 0, 0, 0);
+        Checks.heapsAre("P4 by SLOPE 9 nothing comes back", x, 7, 1, 0, 0, 1, 0, 0, 0);
         x.rules(1, 0, 0, 7, 0);
-        heapsAre("P4 by the same SLOPE nothing moves", x, 7, 1, 0, 0, 1, 0, 0, 0);
+        Checks.heapsAre("P4 by the same SLOPE nothing moves", x, 7, 1, 0, 0, 1, 0, 0, 0);
     }
 
     /** P2: 'then the GRID is SETTLED', also if the HEAP became lower. */
@@ -194,7 +189,7 @@ public final class ShoreEdgeTest {
         x.lay(2, 0, 50);
         x.heap(1, 7);
         // To CELL 2, to 0, to 5, and, as 4 is 3 above all of them, to 2 again.
-        heapsAre("P2 the HEAP slid", x, 1, 3, 2, 0, 0, 1, 0, 0);
+        Checks.heapsAre("P2 the HEAP slid", x, 1, 3, 2, 0, 0, 1, 0, 0);
         x.days(30);
         due("P2 4 lower than v: 20 less", 30, x.cell(1, 1));
         due("P2 2 higher than at the beginning: 6 more", 56, x.cell(2, 1));
@@ -299,7 +294,7 @@ public final class ShoreEdgeTest {
     private static void stormTakesWhatThereIs() {
         DuneBench x = steep(4, 2, 1, 0, 2, 0, 0, 0, 0, 3);
         due("P11 storm(999) takes all there is", 6, x.storm(999));
-        heapsAre("P11 none is below 0", x, 0, 0, 0, 0, 0, 0, 0, 0);
+        Checks.heapsAre("P11 none is below 0", x, 0, 0, 0, 0, 0, 0, 0, 0);
         due("P11 a storm on none", 0, x.storm(1));
         due("P11 a storm on none", 0, x.storm(999));
         due("P11 LOST to the sea", 6, x.about(4));
@@ -312,7 +307,7 @@ public final class ShoreEdgeTest {
         for (int[] k : cut) {
             DuneBench x = steep(4, 2, 2, 3, 4, 2, 0, 0, 0, 0);
             due("P11 storm(" + k[0] + ")", Math.min(11, k[0]), x.storm(k[0]));
-            heapsAre("P11 storm(" + k[0] + ")", x, k[1], k[2], k[3], k[4], 0, 0, 0, 0);
+            Checks.heapsAre("P11 storm(" + k[0] + ")", x, k[1], k[2], k[3], k[4], 0, 0, 0, 0);
         }
         // The most of a storm: 999 of more than that in each y.
         DuneBench x = new DuneBench(4, 2);
@@ -357,15 +352,15 @@ public final class ShoreEdgeTest {
         DuneBench x = settled(1, 4, 2, 1, 0, 0, 0, 2, 1, 0, 0);
         due("P11 storm(1)", 2, x.storm(1));
         // Behind y 0 alone CELL 4 would be 2 above CELL 0.
-        heapsAre("P11 y 1 is cut ahead of any slide", x, 0, 0, 0, 0, 1, 1, 0, 0);
+        Checks.heapsAre("P11 y 1 is cut ahead of any slide", x, 0, 0, 0, 0, 1, 1, 0, 0);
         x = settled(2, 4, 2, 3, 3, 0, 0, 3, 3, 0, 0);
-        heapsAre("P11 before", x, 3, 2, 1, 0, 3, 2, 1, 0);
+        Checks.heapsAre("P11 before", x, 3, 2, 1, 0, 3, 2, 1, 0);
         due("P11 storm(3)", 6, x.storm(3));
-        heapsAre("P11 2 above stands", x, 0, 2, 1, 0, 0, 2, 1, 0);
+        Checks.heapsAre("P11 2 above stands", x, 0, 2, 1, 0, 0, 2, 1, 0);
         x.rules(1, 0, 0, 1, 0);
-        heapsAre("P11 by SLOPE 1 it slides", x, 1, 1, 1, 0, 1, 1, 1, 0);
+        Checks.heapsAre("P11 by SLOPE 1 it slides", x, 1, 1, 1, 0, 1, 1, 1, 0);
         x = settled(1, 4, 2, 1, 2, 2, 1, 1, 2, 2, 1);
         due("P11 storm(1)", 2, x.storm(1));
-        heapsAre("P11 then it slides", x, 1, 1, 2, 1, 1, 1, 2, 1);
+        Checks.heapsAre("P11 then it slides", x, 1, 1, 2, 1, 1, 1, 2, 1);
     }
 }
