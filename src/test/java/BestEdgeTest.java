@@ -5,6 +5,7 @@ public final class BestEdgeTest {
     private static final int NONE = -1;
 
     public static void main(String[] args) {
+        Checks.mustEnd();
         withoutWorks();
         withoutHouses();
         costsJustTheMoney();

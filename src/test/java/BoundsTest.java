@@ -12,6 +12,7 @@ public final class BoundsTest {
     }
 
     public static void main(String[] args) {
+        Checks.mustEnd();
         sizes();
         newObject();
         heap();

@@ -5,7 +5,24 @@ final class Checks {
     private static int wrong = 0;
     private static int asked = 0;
 
+    private static final int MOST_SECONDS = 300;
+
     private Checks() { }
+
+    /** A call that doesn't end is a failure too: the first line of every test. */
+    static void mustEnd() {
+        Thread watch = new Thread(() -> {
+            try {
+                Thread.sleep(MOST_SECONDS * 1000L);
+            } catch (InterruptedException e) {
+                return;
+            }
+            System.out.println("a call has not ended within " + MOST_SECONDS + " seconds");
+            Runtime.getRuntime().halt(1);
+        });
+        watch.setDaemon(true);
+        watch.start();
+    }
 
     static void due(String call, long want, long got) {
         asked++;

@@ -6,6 +6,7 @@ public final class DayEdgeTest {
     private static final int[] DY = {0, 0, 1, -1};
 
     public static void main(String[] args) {
+        Checks.mustEnd();
         calmTakesNoLots();
         noSupply();
         mostSupply();

@@ -18,6 +18,7 @@ public final class FaceTest {
             "int flight(int,int,int)", "int fits(int)", "int about(int)");
 
     public static void main(String[] args) throws IOException {
+        Checks.mustEnd();
         face();
         nested();
         text();

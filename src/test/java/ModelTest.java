@@ -18,6 +18,7 @@ public final class ModelTest {
     }
 
     public static void main(String[] args) {
+        Checks.mustEnd();
         int runs = args.length > 0 ? Integer.parseInt(args[0]) : 400;
         for (int number = 1; number <= runs; number++) {
             new ModelTest(number).go();

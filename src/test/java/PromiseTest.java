@@ -6,6 +6,7 @@ public final class PromiseTest {
     private static int lots;
 
     public static void main(String[] args) {
+        Checks.mustEnd();
         newObject();
         heap();
         slides();

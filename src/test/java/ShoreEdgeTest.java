@@ -3,6 +3,7 @@ public final class ShoreEdgeTest {
     private static final int NONE = -1;
 
     public static void main(String[] args) {
+        Checks.mustEnd();
         neighboursWithinAnX();
         neighboursOverTheLastY();
         neighboursOfHighTwo();

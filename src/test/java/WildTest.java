@@ -7,6 +7,7 @@ public final class WildTest {
     private static final Random RANDOM = new Random(5);
 
     public static void main(String[] args) {
+        Checks.mustEnd();
         for (int i = 0; i < 60; i++) {
             DuneBench x = new DuneBench(any(), any());
             int threw = 0;

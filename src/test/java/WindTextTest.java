@@ -7,6 +7,7 @@ public final class WindTextTest {
     private static final String[] WORDS = {"inland", "seaward", "up", "down", "calm"};
 
     public static void main(String[] args) {
+        Checks.mustEnd();
         emptyTexts();
         onlyByte32IsBlank();
         blanksBetweenTokens();
@@ -166,6 +167,11 @@ public final class WindTextTest {
             faulty("P9", "up " + n, 2, 3);
         }
         faulty("P9", "up 60;down 61;", 2, 11);
+        for (String word : WORDS) {
+            good("P8", word + " 1;" + word + " 60;", 2);
+            faulty("P9", word + " 0;", 2, word.length() + 1);
+            faulty("P9", word + " 61;", 2, word.length() + 1);
+        }
     }
 
     /** P8: '20 of them at most', also with blanks behind. */
