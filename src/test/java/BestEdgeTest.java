@@ -98,6 +98,7 @@ public final class BestEdgeTest {
         }
     }
 
+    /** P15: 'COSTS together are not above the money', of several WORKS. */
     private static void costsTogether() {
         DuneBench x = calm();
         x.work(2, 0, 8, 30);
@@ -480,6 +481,7 @@ public final class BestEdgeTest {
         return x.fits(1);
     }
 
+    /** P18, P19: 'a MISS (0 .. 9)', of HEAPS and sights from none on. */
     private static void leastAndMostMiss() {
         due("P19 none seen of none, MISS 0", 62, flown(0, 0, 0));
         due("P19 1 seen of none, MISS 0", 0, flown(0, 1, 0));
@@ -505,6 +507,7 @@ public final class BestEdgeTest {
         due("P19 two of one CELL that can't both be", 0, x.fits(1));
     }
 
+    /** P18: 'FLIGHTS (20 at most)': a refused one doesn't count. */
     private static void twentiethFlight() {
         DuneBench x = new DuneBench(4, 2);
         for (int i = 0; i < 20; i++) {
@@ -549,6 +552,7 @@ public final class BestEdgeTest {
         }
     }
 
+    /** P19: asking changes nothing, neither now nor THE MARK. */
     private static void fitsChangesNothing() {
         Twins.stayAlike("P19 fits of all DAYS", Twins::full, x -> {
             for (int n = 1; n <= 60; n++) {

@@ -101,6 +101,7 @@ public final class DayEdgeTest {
         due("P10 no grain came", 0, x.about(6));
     }
 
+    /** 'SUPPLY (0 .. 20 grains a DAY)': by 20 as many come, each by a DRAW. */
     private static void mostSupply() {
         DuneBench x = housed(4, 10);
         x.rules(1, 0, 0, 9, 20);
@@ -240,6 +241,7 @@ public final class DayEdgeTest {
         }
     }
 
+    /** 'is in SHADOW', 'for some k of 1 .. 8': a HEAP 8 away holds, one 9 away doesn't. */
     private static void shadowHoldsFromEightAway() {
         for (int away = 7; away <= 9; away++) {
             DuneBench x = windy(16, 2, "inland", 1, 0, 0);
@@ -374,6 +376,7 @@ public final class DayEdgeTest {
         due("P10 and no more on the GRID", 0, x.about(3));
     }
 
+    /** 'if this is its 10th HOP', with the wind to the sea. */
     private static void tenthHopSeaward() {
         for (int from = 10; from <= 15; from++) {
             DuneBench x = carried(16, 2, 1, 1, from, from - 10);
@@ -384,6 +387,7 @@ public final class DayEdgeTest {
         due("P10 and no more on the GRID", 0, x.about(3));
     }
 
+    /** 'if this is its 10th HOP', over the last y and the first. */
     private static void tenthHopUpAndDown() {
         for (int high = 2; high <= 10; high++) {
             for (int hop = 1; hop <= 5; hop++) {
@@ -450,6 +454,7 @@ public final class DayEdgeTest {
         }
     }
 
+    /** 'its HEAP is below its FENCE', 'to 99 high'. */
     private static void laidBelowTheHighestFence() {
         for (int heap = 97; heap <= 99; heap++) {
             DuneBench x = new DuneBench(4, 2);
